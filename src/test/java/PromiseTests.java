@@ -87,6 +87,8 @@ public final class PromiseTests {
         due("3: title 200", x.title(0, 5000), FULL);
         due("3: STATE before FULL", x.title(0, 7), STATE);
         due("3: NONE before FULL", x.title(2, 5000), NONE);
+        due("3: the last title", x.about(199, 1), 1199);
+        due("3: none behind the last", x.about(200, 1), NONE);
     }
 
     private static void promise4Cover() {
@@ -184,6 +186,8 @@ public final class PromiseTests {
         due("6: full", x.rule(0, 0, 1, 0), FULL);
         due("6: RANGE before FULL", x.rule(0, 0, 1, 10), RANGE);
         due("6: NONE before FULL", x.rule(1, 0, 1, 0), NONE);
+        due("6: the last rule", x.fails(99, true), 1);
+        due("6: none behind the last", x.fails(100, true), NONE);
     }
 
     private static void rulesByClassAndName() {
@@ -226,6 +230,10 @@ public final class PromiseTests {
         due("6: other reader", x.access(4, 1, 0, 59), 0);
         due("6: next month", x.access(3, 1, 0, 60), 0);
         due("6: other package's rules", x.access(3, 0, 0, 59), 0);
+        x.in(1, 0);
+        due("6: first of reader 0", x.access(0, 1, 0, 0), 0);
+        due("6: second of reader 0", x.access(0, 1, 0, 0), 0);
+        due("6: third of reader 0", x.access(0, 1, 0, 0), 5);
     }
 
     private static void promise7Fails() {
@@ -369,6 +377,7 @@ public final class PromiseTests {
         due("12: 3 before 4", x.access(4, 1, 30, 0), 3);
         due("12: 3 below", x.access(4, 1, 9, 0), 3);
         due("12: 3 above", x.access(4, 1, 21, 60), 3);
+        due("12: 3 on day 0", x.access(4, 1, 0, 0), 3);
         due("12: from is covered", x.access(4, 1, 10, 60), 5);
         due("12: to is covered", x.access(4, 1, 50, 60), 5);
         x.end(0, 30);
@@ -461,8 +470,8 @@ public final class PromiseTests {
             x.title(0, i);
         }
         x.title(1, 0);
-        x.cover(0, 0, 100);
-        x.cover(1, 0, 101);
+        x.cover(0, 0, 101);
+        x.cover(1, 0, 100);
         x.cover(2, 200, 300);
         x.cover(2, 0, 50);
         x.cover(2, 400, 400);
