@@ -330,7 +330,7 @@ public final class LicenceRows2 {
     private Title findNamed(int pack, int name) {
         for (int i = 0; i < titleCount; i++) {
             Title t = titles[i];
-            if (t.home.number == pack && t.name == name) {
+            if (t != null && t.home.number == pack && t.name == name) {
                 return t;
             }
         }
@@ -341,7 +341,7 @@ public final class LicenceRows2 {
         int count = 0;
         for (int i = 0; i < titleCount; i++) {
             Title t = titles[i];
-            if (t.home.number == pack && t.lastDay() > day) {
+            if (t != null && t.home.number == pack && t.lastDay() > day) {
                 count++;
             }
         }
@@ -373,7 +373,7 @@ public final class LicenceRows2 {
         int had = usages.ofReaderIn(reader, monthOf(on));
         for (int i = 0; i < ruleCount; i++) {
             Rule r = rules[i];
-            if (r.home != t.home.number) {
+            if (r == null || r.home != t.home.number) {
                 continue;
             }
             if (r.failing) {

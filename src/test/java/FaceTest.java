@@ -56,6 +56,28 @@ public final class FaceTest {
         }
     }
 
+    private static void looksAtPrivateNames() {
+        TreeSet<String> publicNames = new TreeSet<>();
+        for (Method m : LicenceRows2.class.getDeclaredMethods()) {
+            if (Modifier.isPublic(m.getModifiers())) {
+                publicNames.add(m.getName());
+            }
+        }
+        for (Method m : LicenceRows2.class.getDeclaredMethods()) {
+            if (!Modifier.isPublic(m.getModifiers()) && publicNames.contains(m.getName())) {
+                wrong++;
+                System.out.println("a private method bears a public name: " + m.getName());
+            }
+        }
+        for (Class<?> inside : LicenceRows2.class.getDeclaredClasses()) {
+            int kind = inside.getModifiers();
+            if (!Modifier.isStatic(kind) || Modifier.isPublic(kind) || Modifier.isProtected(kind)) {
+                wrong++;
+                System.out.println("a class inside is not static, or is to be seen: " + inside.getName());
+            }
+        }
+    }
+
     private static Object[] draw(Method m, Random random) {
         Class<?>[] types = m.getParameterTypes();
         Object[] values = new Object[types.length];
@@ -105,6 +127,7 @@ public final class FaceTest {
 
     public static void main(String[] args) throws IllegalAccessException {
         looksAtMembers();
+        looksAtPrivateNames();
         callsAtRandom();
         usagesBeyondCalls();
         System.out.println("the face: " + wrong + " not as due");
